@@ -586,9 +586,9 @@ public final class SalonBook {
     /** A service: a row of steps, each a span of minutes told from the start of a visit on. */
     private static final class Service {
         final int number;
-        private final int[] stepSkill = new int[MOST_STEPS];
-        private final int[] stepFrom = new int[MOST_STEPS];
-        private final int[] stepTo = new int[MOST_STEPS];
+        private final int[] stepSkills = new int[MOST_STEPS];
+        private final int[] stepStarts = new int[MOST_STEPS];
+        private final int[] stepEnds = new int[MOST_STEPS];
         int steps;
         int length;
         int work;
@@ -604,9 +604,9 @@ public final class SalonBook {
             if (steps < 0 || steps >= MOST_STEPS) {
                 return;
             }
-            stepSkill[steps] = skill;
-            stepFrom[steps] = length;
-            stepTo[steps] = length + minutes;
+            stepSkills[steps] = skill;
+            stepStarts[steps] = length;
+            stepEnds[steps] = length + minutes;
             steps++;
             length += minutes;
             if (skill != NONE) {
@@ -616,15 +616,15 @@ public final class SalonBook {
         }
 
         boolean isRest(int step) {
-            return step >= 0 && step < MOST_STEPS && stepSkill[step] == NONE;
+            return step >= 0 && step < MOST_STEPS && stepSkills[step] == NONE;
         }
 
         int stepFrom(int step) {
-            return step >= 0 && step < MOST_STEPS ? stepFrom[step] : 0;
+            return step >= 0 && step < MOST_STEPS ? stepStarts[step] : 0;
         }
 
         int stepTo(int step) {
-            return step >= 0 && step < MOST_STEPS ? stepTo[step] : 0;
+            return step >= 0 && step < MOST_STEPS ? stepEnds[step] : 0;
         }
     }
 

@@ -1,0 +1,111 @@
+import java.util.NoSuchElementException;
+import java.util.function.IntSupplier;
+
+/** Makes calls that are told as text, such as "book 0 60", and tells their answers as text. */
+final class Calls {
+    static final String[] QUESTIONS = {
+        "requests", "requestAt", "lengthOf", "workOf", "skillsOf", "visits", "startOf", "staffOf",
+        "chairOf", "serviceOf", "loadOf", "staffAt", "chairAt", "earliest", "earliestByScan",
+        "staffFor", "inRest", "fill", "peak"};
+    static final String[] CHANGES = {
+        "hire", "addService", "addStep", "addUsual", "book", "bookWith", "move", "drop", "request"};
+
+    private Calls() {
+    }
+
+    static boolean isQuestion(String name) {
+        for (String question : QUESTIONS) {
+            if (question.equals(name)) {
+                return true;
+            }
+        }
+        return false;
+    }
+
+    static int arity(String name) {
+        switch (name) {
+            case "requests": case "visits": case "peak":
+                return 0;
+            case "hire": case "addStep": case "bookWith":
+                return 3;
+            case "addService": case "book": case "move": case "request": case "staffAt":
+            case "chairAt": case "earliest": case "earliestByScan": case "staffFor": case "inRest":
+                return 2;
+            default:
+                return 1;
+        }
+    }
+
+    /** The answer as a number, or the simple name of what was thrown, whatever it was. */
+    static String answer(SalonBook x, String name, int... a) {
+        return told(() -> call(x, name, a));
+    }
+
+    static String told(IntSupplier call) {
+        try {
+            return Integer.toString(call.getAsInt());
+        } catch (IndexOutOfBoundsException | IllegalArgumentException | IllegalStateException
+                | NoSuchElementException e) {
+            return e.getClass().getSimpleName();
+        }
+    }
+
+    private static int call(SalonBook x, String name, int[] a) {
+        switch (name) {
+            case "hire": return x.hire(a[0], a[1], a[2]);
+            case "addService": return x.addService(a[0], a[1]);
+            case "addStep": return x.addStep(a[0], a[1], a[2]);
+            case "addUsual": return x.addUsual(a[0]);
+            case "book": return x.book(a[0], a[1]);
+            case "bookWith": return x.bookWith(a[0], a[1], a[2]);
+            case "move": return x.move(a[0], a[1]);
+            case "drop": return x.drop(a[0]);
+            case "request": return x.request(a[0], a[1]);
+            case "requests": return x.requests();
+            case "requestAt": return x.requestAt(a[0]);
+            case "lengthOf": return x.lengthOf(a[0]);
+            case "workOf": return x.workOf(a[0]);
+            case "skillsOf": return x.skillsOf(a[0]);
+            case "visits": return x.visits();
+            case "startOf": return x.startOf(a[0]);
+            case "staffOf": return x.staffOf(a[0]);
+            case "chairOf": return x.chairOf(a[0]);
+            case "serviceOf": return x.serviceOf(a[0]);
+            case "loadOf": return x.loadOf(a[0]);
+            case "staffAt": return x.staffAt(a[0], a[1]);
+            case "chairAt": return x.chairAt(a[0], a[1]);
+            case "earliest": return x.earliest(a[0], a[1]);
+            case "earliestByScan": return x.earliestByScan(a[0], a[1]);
+            case "staffFor": return x.staffFor(a[0], a[1]);
+            case "inRest": return x.inRest(a[0], a[1]);
+            case "fill": return x.fill(a[0]);
+            case "peak": return x.peak();
+            default: throw new Error("no such call: " + name);
+        }
+    }
+
+    /**
+     * All that can be asked of an object. It asks more than 512 times, behind which the
+     * document leaves the answers free; this class answers on, and the tests use that.
+     */
+    static String state(SalonBook x) {
+        StringBuilder all = new StringBuilder();
+        all.append(answer(x, "visits")).append(' ').append(answer(x, "requests"));
+        all.append(' ').append(answer(x, "peak"));
+        for (String name : new String[] {"requestAt", "lengthOf", "workOf", "skillsOf", "startOf",
+                "staffOf", "chairOf", "serviceOf", "loadOf"}) {
+            for (int i = 0; i <= 31; i++) {
+                all.append(' ').append(answer(x, name, i));
+            }
+        }
+        for (int minute = 0; minute < 600; minute++) {
+            for (int i = 0; i < 5; i++) {
+                all.append(' ').append(answer(x, "staffAt", i, minute));
+            }
+            for (int i = 0; i < 4; i++) {
+                all.append(' ').append(answer(x, "chairAt", i, minute));
+            }
+        }
+        return all.toString();
+    }
+}
