@@ -127,6 +127,14 @@ public final class PlacesTest {
             staffFor 0 600 => IndexOutOfBounds
             staffFor 0 MIN => IndexOutOfBounds
             """);
+        Script.run("promise 26: at minute 0, and never behind the day", """
+            hire 1 0 600 => 0
+            hire 2 0 100 => 1
+            addService 1 20 => 0
+            staffFor 0 0 => 1
+            staffFor 0 80 => 1
+            staffFor 0 81 => -1
+            """);
     }
 
     private static void inRest() {
@@ -330,6 +338,18 @@ public final class PlacesTest {
             peak => 580
             drop 0 => 0
             peak => 0
+            """);
+        Script.run("promise 29: the first and the last minute", """
+            hire 15 0 600 => 0
+            hire 15 0 600 => 1
+            addService 1 1 => 0
+            book 0 599 => 0
+            peak => 599
+            book 0 0 => 1
+            peak => 0
+            bookWith 0 0 599 => NoSuchElement
+            bookWith 0 1 599 => 2
+            peak => 599
             """);
     }
 }

@@ -19,7 +19,12 @@ final class PlainSalon {
     private final List<int[]> requests = new ArrayList<>();
 
     String answer(String name, int... a) {
-        return Calls.told(() -> call(name, a));
+        try {
+            return Integer.toString(call(name, a));
+        } catch (IndexOutOfBoundsException | IllegalArgumentException | IllegalStateException
+                | NoSuchElementException e) {
+            return Calls.simpleName(e);
+        }
     }
 
     private int call(String name, int[] a) {
