@@ -47,6 +47,11 @@ final class Calls {
         }
     }
 
+    /** Whether an answer is one; else it is the name of an exception. */
+    static boolean isNumber(String answer) {
+        return answer.matches("-?[0-9]+");
+    }
+
     static String simpleName(RuntimeException e) {
         return e.getClass().getSimpleName();
     }
@@ -83,30 +88,5 @@ final class Calls {
             case "peak": return x.peak();
             default: throw new Error("no such call: " + name);
         }
-    }
-
-    /**
-     * All that can be asked of an object. It asks more than 512 times, behind which the
-     * document leaves the answers free; this class answers on, and the tests use that.
-     */
-    static String state(SalonBook x) {
-        StringBuilder all = new StringBuilder();
-        all.append(answer(x, "visits")).append(' ').append(answer(x, "requests"));
-        all.append(' ').append(answer(x, "peak"));
-        for (String name : new String[] {"requestAt", "lengthOf", "workOf", "skillsOf", "startOf",
-                "staffOf", "chairOf", "serviceOf", "loadOf"}) {
-            for (int i = 0; i <= 31; i++) {
-                all.append(' ').append(answer(x, name, i));
-            }
-        }
-        for (int minute = 0; minute < 600; minute++) {
-            for (int i = 0; i < 5; i++) {
-                all.append(' ').append(answer(x, "staffAt", i, minute));
-            }
-            for (int i = 0; i < 4; i++) {
-                all.append(' ').append(answer(x, "chairAt", i, minute));
-            }
-        }
-        return all.toString();
     }
 }

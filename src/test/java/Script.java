@@ -4,7 +4,8 @@ import java.util.List;
 /**
  * Runs of calls told as text, a line a call: "book 0 60 => 3", "drop 9 => IndexOutOfBounds".
  * Each run has an object of its own. A call that throws and a question must change nothing:
- * that is looked at behind each of them.
+ * that is looked at for each of them, by a run with it and a run without it (Probe).
+ * No object is used for more calls than the document promises answers for.
  */
 final class Script {
     private static int wrong = 0;
@@ -16,25 +17,49 @@ final class Script {
     static void run(String title, String text) {
         runs++;
         SalonBook x = new SalonBook();
-        String before = Calls.state(x);
-        for (String line : calls(text)) {
+        List<String[]> made = new ArrayList<>();
+        List<String[]> changes = new ArrayList<>();
+        for (String line : lines(text)) {
             String[] sides = line.split("=>");
-            String[] words = sides[0].trim().split(" +");
+            String[] call = sides[0].trim().split(" +");
             String due = sides[1].trim();
-            String got = Calls.answer(x, words[0], numbers(words)).replace("Exception", "");
+            String got = Calls.answer(x, call[0], numbers(call)).replace("Exception", "");
             if (!got.equals(due)) {
                 tell(title, sides[0].trim() + " answered " + got + ", due is " + due);
             }
-            String after = Calls.state(x);
-            boolean threw = !got.matches("-?[0-9]+");
-            if ((threw || Calls.isQuestion(words[0])) && !after.equals(before)) {
+            boolean changesNothing = Calls.isQuestion(call[0]) || !Calls.isNumber(got);
+            List<String[]> without = new ArrayList<>(made);
+            made.add(call);
+            if (!changesNothing) {
+                changes.add(call);
+            } else if (tellsApart(made, without)) {
                 tell(title, sides[0].trim() + " changed something");
             }
-            before = after;
+        }
+        if (made.size() > Probe.CALLS) {
+            tell(title, "has more calls than an object is used for");
+        }
+        int left = Probe.CALLS - made.size();
+        if (!Probe.minutes(made, left).equals(Probe.minutes(changes, left))) {
+            tell(title, "the questions and the calls that threw changed something");
         }
     }
 
-    private static List<String> calls(String text) {
+    private static boolean tellsApart(List<String[]> made, List<String[]> without) {
+        int left = Probe.CALLS - made.size();
+        return !Probe.answers(made, left).equals(Probe.answers(without, left));
+    }
+
+    /** A new object behind the calls of a text, whose answers are looked at elsewhere. */
+    static SalonBook object(String text) {
+        List<String[]> made = new ArrayList<>();
+        for (String line : lines(text)) {
+            made.add(line.split("=>")[0].trim().split(" +"));
+        }
+        return Probe.object(made);
+    }
+
+    private static List<String> lines(String text) {
         List<String> lines = new ArrayList<>();
         for (String raw : text.split("\n")) {
             String line = raw.replaceAll("//.*", "").trim();
@@ -54,7 +79,7 @@ final class Script {
         return lines.toString();
     }
 
-    private static int[] numbers(String[] words) {
+    static int[] numbers(String[] words) {
         int[] numbers = new int[words.length - 1];
         for (int i = 0; i < numbers.length; i++) {
             String word = words[i + 1];
@@ -67,6 +92,14 @@ final class Script {
             }
         }
         return numbers;
+    }
+
+    /** A test that is not told as a run: what it looks at must hold. */
+    static void check(String title, boolean holds, String fault) {
+        runs++;
+        if (!holds) {
+            tell(title, fault);
+        }
     }
 
     static void tell(String title, String fault) {
