@@ -47,9 +47,19 @@ final class Calls {
         }
     }
 
+    /** The same, but whoever threw an exception: that takes long to find out. */
+    static String quickAnswer(SalonBook x, String name, int... a) {
+        try {
+            return Integer.toString(call(x, name, a));
+        } catch (RuntimeException e) {
+            return simpleName(e);
+        }
+    }
+
     /** Whether an answer is one; else it is the name of an exception. */
     static boolean isNumber(String answer) {
-        return answer.matches("-?[0-9]+");
+        char last = answer.isEmpty() ? ' ' : answer.charAt(answer.length() - 1);
+        return last >= '0' && last <= '9';
     }
 
     static String simpleName(RuntimeException e) {

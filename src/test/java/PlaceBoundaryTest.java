@@ -115,6 +115,19 @@ public final class PlaceBoundaryTest {
             ASK 1 40 => 40
             ASK 1 41 => 150
             """);
+        ask(promise, name, "the start of the place: at the end of a step behind a rest, too", """
+            hire 2 0 600 => 0
+            addService 1 10 => 0
+            addStep 0 -1 10 => 2
+            addStep 0 1 10 => 3
+            addStep 0 -1 50 => 4
+            addService 1 5 => 1
+            addStep 1 -1 35 => 2
+            addStep 1 1 5 => 3
+            book 0 100 => 0                        // 100 to 110 and 120 to 130
+            ASK 1 75 => 75                         // its last step ends at 120
+            ASK 1 76 => 90                         // its last step begins at 130
+            """);
         ask(promise, name, "the start of the place: the end of a visit, where a chair is free", """
             hire 2 0 600 => 0
             hire 2 0 600 => 1
@@ -472,6 +485,23 @@ public final class PlaceBoundaryTest {
             inRest 0 1 => -1                       // another one could
             inRest 0 2 => 110
             """);
+        Script.run("27: the member of staff of that visit: the last of five", """
+            hire 2 0 600 => 0
+            hire 2 0 600 => 1
+            hire 2 0 600 => 2
+            hire 2 0 600 => 3
+            hire 2 0 600 => 4
+            addService 1 10 => 0
+            addStep 0 -1 20 => 2
+            addService 1 10 => 1
+            bookWith 0 4 100 => 0
+            bookWith 0 3 105 => 1
+            bookWith 1 0 110 => 2
+            inRest 0 1 => 110
+            inRest 1 1 => 115
+            bookWith 1 4 110 => 3
+            inRest 0 1 => 120
+            """);
         Script.run("27: the member of staff of that visit can take it: not while they are taken", """
             hire 15 0 600 => 0
             hire 15 0 600 => 1
@@ -638,6 +668,17 @@ public final class PlaceBoundaryTest {
             fill 110 => 3
             fill 154 => 3
             fill 155 => 7
+            """);
+        Script.run("28: one with the greatest sum: by one minute", """
+            addService 1 10 => 0
+            addService 1 11 => 1
+            addService 1 12 => 2
+            fill 10 => 1
+            fill 11 => 2
+            fill 12 => 4
+            fill 21 => 3
+            fill 22 => 5
+            fill 23 => 6
             """);
         Script.run("28: the set: bit k for the service k: none without services", """
             fill 0 => 0

@@ -24,7 +24,7 @@ final class Probe {
     static SalonBook object(List<String[]> made) {
         SalonBook x = new SalonBook();
         for (String[] call : made) {
-            Calls.answer(x, call[0], Script.numbers(call));
+            Calls.quickAnswer(x, call[0], Script.numbers(call));
         }
         return x;
     }
@@ -67,7 +67,7 @@ final class Probe {
             return "";
         }
         left--;
-        String answer = Calls.answer(x, name, a);
+        String answer = Calls.quickAnswer(x, name, a);
         all.append(' ').append(answer);
         return answer;
     }

@@ -1,4 +1,5 @@
 import java.util.ArrayList;
+import java.util.Arrays;
 import java.util.List;
 
 /**
@@ -32,7 +33,7 @@ final class Script {
             made.add(call);
             if (!changesNothing) {
                 changes.add(call);
-            } else if (tellsApart(made, without)) {
+            } else if (!isRepeated(made) && tellsApart(made, without)) {
                 tell(title, sides[0].trim() + " changed something");
             }
         }
@@ -43,6 +44,12 @@ final class Script {
         if (!Probe.minutes(made, left).equals(Probe.minutes(changes, left))) {
             tell(title, "the questions and the calls that threw changed something");
         }
+    }
+
+    /** Whether the last call is the one before it again: one look at such a row is enough. */
+    private static boolean isRepeated(List<String[]> made) {
+        int last = made.size() - 1;
+        return last > 0 && Arrays.equals(made.get(last), made.get(last - 1));
     }
 
     private static boolean tellsApart(List<String[]> made, List<String[]> without) {

@@ -6,6 +6,7 @@ public final class TermsBoundaryTest {
     public static void main(String[] args) {
         theFiveHundredAndTwelfthCall();
         nothingInTwoPlaces();
+        questions();
         day();
         chairsAndSkills();
         staffAndServices();
@@ -102,6 +103,40 @@ public final class TermsBoundaryTest {
             once &= minutes[minute] == 1;
         }
         return once;
+    }
+
+    private static void questions() {
+        Script.run("a question changes nothing", """
+            hire 15 0 600 => 0
+            hire 15 0 600 => 1
+            addUsual 2 => 0
+            addService 1 20 => 1
+            addService 1 10 => 2
+            book 0 100 => 0
+            request 1 599 => 1                     // has its place at 0
+            requests => 1
+            requestAt 0 => 1
+            lengthOf 0 => 45
+            workOf 0 => 25
+            skillsOf 0 => 9
+            visits => 1
+            startOf 0 => 100
+            staffOf 0 => 0
+            chairOf 0 => 0
+            serviceOf 0 => 0
+            loadOf 0 => 25
+            staffAt 0 100 => 0
+            chairAt 0 100 => 0
+            earliest 2 0 => 0
+            earliestByScan 2 0 => 0
+            staffFor 2 0 => 1
+            inRest 0 2 => 115
+            fill 600 => 7
+            peak => 100
+            requests => 1
+            visits => 1
+            addStep 2 1 10 => 2                    // no question is a booking of it
+            """);
     }
 
     private static void day() {

@@ -552,6 +552,18 @@ public final class VisitBoundaryTest {
             requests => 0
             startOf 1 => 0
             """);
+        Script.run("8: then the list is served: up to the thirtieth visit", ONE_SERVICE
+            + Script.counting("book 0 0", 0, 28) + """
+            request 0 0 => 1
+            request 0 20 => 2
+            move 0 580 => 580
+            requests => 1
+            startOf 29 => 0
+            move 1 20 => 20                        // the day is full without it
+            drop 0 => 0
+            drop 1 => 0
+            requests => 1
+            """);
         Script.run("8: then the list is served: also when the visit stays where it was", ONE_SERVICE + """
             book 0 100 => 0
             request 0 0 => 1
