@@ -628,7 +628,6 @@ public final class SalonBook {
         }
     }
 
-    /** A member of staff. */
     private static final class Member {
         final int skills;
         final int from;
@@ -677,7 +676,6 @@ public final class SalonBook {
         }
     }
 
-    /** A request in the waiting list. */
     private static final class Request {
         final Service service;
         final int latest;
